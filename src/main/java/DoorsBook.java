@@ -247,7 +247,7 @@ public final class DoorsBook {
     public int ask(int line, int what) {
         if (noLine(line) || what < 0 || what > 1) return BAD;
         asks.traced = 0;
-        return what == 0 ? asks.sizeOf(line, 0) : asks.markOf(line, 0);
+        return what == 0 ? asks.sizeOf(line) : asks.markOf(line);
     }
 
     public int trace(int i) {
@@ -1181,7 +1181,7 @@ public final class DoorsBook {
 
     /** ASKS by BODIES, and THE TRACE of those that began. */
     private static final class Asks {
-        private static final int TRACE_ROOM = 16, DEEPEST = 2;
+        private static final int TRACE_ROOM = 16;
 
         private final Lines lines;
         final int[] bodies = new int[TRACE_ROOM];
@@ -1191,25 +1191,22 @@ public final class DoorsBook {
             this.lines = lines;
         }
 
-        /** Depth: how many asks this one stands within. */
-        int sizeOf(int line, int depth) {
-            if (depth > DEEPEST) return 0;
+        int sizeOf(int line) {
             switch (lines.sort[line]) {
                 case LISTED: return homeSize(line);
                 case RATED: return ratedSize(line);
-                case COUNTED: return countedSize(line, depth);
+                case COUNTED: return countedSize(line);
                 case STALE: return staleSize(line);
                 default: return lentSize(line);
             }
         }
 
-        int markOf(int line, int depth) {
-            if (depth > DEEPEST) return 0;
+        int markOf(int line) {
             switch (lines.sort[line]) {
                 case LISTED: return homeMark(line);
                 case RATED: return homeMark(line);
                 case COUNTED: return countedMark(line);
-                case TRADE: return tradeMark(line, depth);
+                case TRADE: return tradeMark(line);
                 default: return lentMark(line);
             }
         }
@@ -1229,10 +1226,11 @@ public final class DoorsBook {
             return 2 * homeSize(line);
         }
 
-        private int countedSize(int line, int depth) {
+        /** MARK asked of the same LINE anew begins with the BODY of COUNTED ones. */
+        private int countedSize(int line) {
             begin(13);
             int asHome = homeSize(line);
-            return asHome + markOf(line, depth + 1);
+            return asHome + countedMark(line);
         }
 
         private int staleSize(int line) {
@@ -1255,10 +1253,11 @@ public final class DoorsBook {
             return homeMark(line) + (lines.age[line] == NONE ? 0 : lines.age[line]);
         }
 
-        private int tradeMark(int line, int depth) {
+        /** SIZE asked of the same LINE anew begins with the lent BODY: TRADES have none of their own. */
+        private int tradeMark(int line) {
             begin(23);
             int lent = lentMark(line);
-            return lent + sizeOf(line, depth + 1);
+            return lent + lentSize(line);
         }
 
         private void begin(int body) {
