@@ -422,7 +422,6 @@ public final class DoorsBook {
         int token;
         int start;
         private int end;
-        int value;
 
         void add(byte b) {
             if (length < TAPE_BYTES) bytes[length++] = b;
@@ -443,19 +442,19 @@ public final class DoorsBook {
                 token = WORD;
                 while (end < length && isLetter(bytes[end])) end++;
             } else if (isFigure(bytes[start])) {
-                stepOverFigures();
+                while (end < length && isFigure(bytes[end])) end++;
+                token = end - start <= MOST_FIGURES ? FIGURES : NO_TOKEN;
             } else {
                 token = bytes[start] == ';' ? SIGN : NO_TOKEN;
                 end = start + 1;
             }
         }
 
-        private void stepOverFigures() {
-            while (end < length && isFigure(bytes[end])) end++;
-            token = end - start <= MOST_FIGURES ? FIGURES : NO_TOKEN;
-            value = 0;
-            if (token == NO_TOKEN) return;
-            for (int k = start; k < end; k++) value = 10 * value + bytes[k] - '0';
+        /** What FIGURES tell. */
+        int number() {
+            int told = 0;
+            for (int k = start; k < end && k < length; k++) told = 10 * told + bytes[k] - '0';
+            return told;
         }
 
         int letters() {
@@ -907,7 +906,7 @@ public final class DoorsBook {
             int street = value;
             if (!takeNumber(1, LAST_NUMBER)) return false;
             int old = value;
-            if (tape.token == Tape.FIGURES && tape.value == old) return fail(NOT_AS_TOLD);
+            if (tape.token == Tape.FIGURES && tape.number() == old) return fail(NOT_AS_TOLD);
             if (!takeNumber(1, LAST_NUMBER)) return false;
             int renewed = value;
             if (!takeSign()) return false;
@@ -931,8 +930,8 @@ public final class DoorsBook {
 
         private boolean takeNumber(int least, int most) {
             if (tape.token != Tape.FIGURES) return fail(MISPLACED);
-            if (tape.value < least || tape.value > most) return fail(NOT_AS_TOLD);
-            value = tape.value;
+            value = tape.number();
+            if (value < least || value > most) return fail(NOT_AS_TOLD);
             tape.step();
             return true;
         }

@@ -10,12 +10,15 @@ final class AskEdges {
     }
 
     void run() {
+        constants();
         kindsOfLines();
         takenAsAKind();
         asRefuses();
         asIsNoSuchOne();
+        kindsThatAreKinds();
         bodiesOfSize();
         bodiesOfMark();
+        nearestBodies();
         leastAndMost();
         askRefuses();
         traceIsEmptyAhead();
@@ -36,6 +39,9 @@ final class AskEdges {
         for (int bad : Edge.ints(-1, 5, 12, Edge.MAX, Edge.MIN)) edge.due("no such LINE", x.kind(bad), Edge.BAD);
         DoorsBook y = edge.told("book 50 0 1;" + "line 0 trade 0 1 a;".repeat(11) + "line 0 stale 0 1 a;");
         edge.row("the last LINE", Edge.of(y.kind(10), y.kind(11), y.kind(12)), 4, 5, Edge.BAD);
+        edge.sentence(Edge.TERMS, "It is told by its SORT: by this it is asked.");
+        for (int kind = 0; kind < 6; kind++) x.as(1, kind);
+        edge.row("what it was taken as does not count", Edge.of(x.kind(1), x.ask(1, 0), x.trace(0)), 2, 20, 12);
     }
 
     private void takenAsAKind() {
@@ -67,6 +73,14 @@ final class AskEdges {
         }
     }
 
+    private void kindsThatAreKinds() {
+        edge.sentence(Edge.TERMS, "KINDS of LINES: 0 LINE; 1 HOME, a LINE: listed; 2 RATED, a HOME; 3 COUNTED, a HOME; 4 TRADE, a LINE; 5 STALE, a LINE.");
+        DoorsBook x = edge.told(FIVE);
+        edge.row("as a HOME", Edge.of(x.as(0, 1), x.as(1, 1), x.as(2, 1), x.as(3, 1), x.as(4, 1)), 9, 8, 7, Edge.KIND, Edge.KIND);
+        edge.row("a HOME as one of the others", Edge.of(x.as(0, 2), x.as(0, 3), x.as(0, 4), x.as(0, 5)), Edge.KIND, Edge.KIND, Edge.KIND, Edge.KIND);
+        edge.row("side by side", Edge.of(x.as(1, 3), x.as(2, 2), x.as(3, 5), x.as(4, 4)), Edge.KIND, Edge.KIND, Edge.KIND, Edge.KIND);
+    }
+
     // ---- promises 27 and 28
 
     private void asked(DoorsBook x, int line, int what, int answer, int... bodies) {
@@ -94,6 +108,18 @@ final class AskEdges {
         asked(x, 2, 1, 50 + 1, 22, 21, 20);
         asked(x, 3, 1, 50 + 4, 23, 20, 10);
         asked(x, 4, 1, 50, 20);
+    }
+
+    /** RATED ones have no MARK of their own, STALE ones no MARK but the lent one, TRADES no SIZE but the lent one. */
+    private void nearestBodies() {
+        edge.sentence(Edge.TERMS, "(Of an ask the BODY told for the KIND begins, else that of the nearest KIND that it is, too, else the one that is lent; "
+            + "SIZE, MARK within others are asked of the same LINE anew.)");
+        DoorsBook x = edge.told(FIVE);
+        asked(x, 1, 1, 51, 21, 20);
+        asked(x, 4, 1, 50, 20);
+        asked(x, 3, 0, 4, 10);
+        asked(x, 2, 0, 61, 13, 11, 10, 22, 21, 20);
+        asked(x, 3, 1, 54, 23, 20, 10);
     }
 
     private void leastAndMost() {
@@ -139,6 +165,12 @@ final class AskEdges {
         edge.sentence(Edge.TERMS, "each of which leaves its number in THE TRACE as it begins (the first 16)");
         for (int k = 0; k < 20; k++) x.ask(2, 0);
         edge.row("no ask has more than six", Edge.of(x.trace(0), x.trace(5), x.trace(6), x.trace(15)), 13, 20, Edge.NONE, Edge.NONE);
+    }
+
+    /** STATE is told of no call, so its number is all that can be seen of it. */
+    private void constants() {
+        edge.sentence(Edge.TERMS, "public static final int NONE = -1000000, BAD = -1000001, STATE = -1000002, FULL = -1000003;");
+        edge.row("constants", Edge.of(DoorsBook.NONE, DoorsBook.BAD, DoorsBook.STATE, DoorsBook.FULL), -1000000, -1000001, -1000002, -1000003);
     }
 
     // ---- promise 29

@@ -85,6 +85,9 @@ final class BookEdges {
         edge.due("one AFTER for two BEFORE", y.lost(0, 50, 60, 0), 1);
         DoorsBook z = edge.told(BOOKS + "line 0 trade 0 1 lee;line 1 trade 0 1 baker;");
         edge.due("no LIKE NAMES", z.lost(0, 50, 60, 0), 0);
+        DoorsBook v = edge.told(BOOKS + "line 0 trade 0 1 lee;line 1 trade 0 1 baker;line 1 trade 0 2 lee;");
+        edge.row("one AFTER is left out", lost(v, 0, 50, 60), 1, 1, 2);
+        edge.row("one BEFORE is left out", lost(v, 0, 60, 50), 1, 2, 1);
         DoorsBook u = edge.told(BOOKS + "line 0 listed 0 1 lee age 9;line 1 listed 0 1 lee age 99;");
         edge.due("by NAMES alone", u.lost(0, 50, 60, 0), 1);
     }
@@ -172,6 +175,15 @@ final class BookEdges {
         edge.row("another STREET", missing(x, 0, 1), Edge.NONE, 4, 0);
         edge.tell(x, "line 1 stale 0 1 lea;");
         edge.row("one", missing(x, 0, 1), 4, 4, 1);
+        edge.row("the first LINE of all is the one", missing(x, 1, 0), 4, 4, 1);
+        edge.faulty(x, "line 1 trade 0 1 lee;line 0 trade 0 1 lee;x", 42, 1);
+        edge.row("what did not come does not count", missing(x, 0, 1), 4, 4, 1);
+        edge.tell(x, "book 70 0 1;line 2 trade 0 1 lee;line 2 trade 0 1 lee;");
+        edge.row("nor do LINES of other BOOKS", missing(x, 0, 1), 4, 4, 1);
+        edge.row("two of the third", missing(x, 2, 0), 1, 1, 2);
+        DoorsBook y = edge.told(BOOKS + "line 0 trade 0 1 lee;");
+        edge.faulty(y, "line 1 trade 0 1 lee;x", 21, 1);
+        edge.row("what did not come does not count", missing(y, 0, 1), Edge.NONE, 1, 0);
     }
 
     private void bothOfTheFirst() {
@@ -290,6 +302,7 @@ final class BookEdges {
         edge.due("1000 by 99 and by 98 are 10 both", edge.told("book 50 0 99;book 50 0 98;" + line).next(), 0);
         edge.due("1000 by 91 is 10", edge.told("book 50 0 99;book 50 0 91;" + line).next(), 0);
         edge.due("1000 by 90 is 11", edge.told("book 50 0 99;book 50 0 90;" + line).next(), 1);
+        edge.due("1000 by 51 is 19, by 50 20", edge.told("book 50 0 51;book 50 0 50;" + line).next(), 1);
         edge.due("1000 by 2 and by 1", edge.told("book 50 0 2;book 50 0 1;" + line).next(), 1);
         edge.due("1000 and 2000", edge.told("book 50 0 1;book 50 0 1;" + line + "line 1 trade 0 3 a;").next(), 1);
         edge.due("1000 by 99 is more than none by 1", edge.told("book 50 0 1;book 50 0 99;line 1 trade 0 1 a;").next(), 1);
@@ -323,5 +336,9 @@ final class BookEdges {
         edge.due("each LINE counts, at one DOOR, too", y.next(), 0);
         y.leaf(1, 1);
         edge.due("none is left, but the BOOK is not READ", y.next(), 0);
+        DoorsBook z = edge.told("book 50 0 1;book 60 0 1;book 70 0 1;line 1 trade 0 1 a;line 2 trade 0 2 a;");
+        z.leaf(0, 1);
+        edge.faulty(z, "line 0 trade 0 1 a;x", 19, 1);
+        edge.due("a LINE that did not come is at no DOOR", z.next(), 1);
     }
 }

@@ -47,6 +47,9 @@ final class DoorEdges {
         edge.due("there and back", z.today(0, 1, 49), 1);
         edge.tell(z, "order 50 0 1 9;");
         edge.due("and on", z.today(0, 1, 49), 9);
+        DoorsBook v = edge.told("order 60 1 1 2;order 70 3 4 5;order 50 2 2 3;order 50 3 3 4;");
+        edge.row("each on its STREET", Edge.of(v.today(1, 1, 49), v.today(2, 2, 49), v.today(3, 3, 49), v.today(1, 2, 49), v.today(2, 1, 49),
+            v.today(3, 4, 69), v.today(3, 3, 50)), 2, 3, 5, 2, 1, 5, 3);
         DoorsBook u = new DoorsBook();
         for (int k = 20; k >= 1; k--) edge.tell(u, "order " + k + " 0 " + k + " " + (k + 1) + ";");
         edge.row("twenty behind one another", Edge.of(u.today(0, 1, 0), u.today(0, 1, 1), u.today(0, 20, 19), u.today(0, 20, 20)), 21, 1, 21, 20);
@@ -136,6 +139,14 @@ final class DoorEdges {
         put(x, 0, 57, 2, 1, 0);
         put(x, 0, 54, 0, 1, 50);
         edge.due("two pairs", x.walks(0, 0, 20), 4);
+        for (int street = 0; street < 3; street++) {
+            for (int number : Edge.ints(1, 2, 3, 97, 98, 99)) {
+                put(x, 0, 0, street, number, 9999, street + 1, 100 - number, 9999, street + 1, number, 9999);
+                edge.due("two STREETS", x.walks(0, 0, 3), 0);
+            }
+            put(x, 0, 0, street, 99, 9999, street + 1, 1, 9999, street + 1, 2, 9999);
+            edge.due("99 and 1 of the next STREET", x.walks(0, 0, 3), 0);
+        }
         DoorsBook y = new DoorsBook();
         y.sheet(0, 2, 60);
         for (int walk = 0; walk < 20; walk++) put(y, 0, 3 * walk, 3, 99, walk);

@@ -93,6 +93,8 @@ final class LineEdges {
         edge.tell(x, "order 52 0 5 8;");
         edge.row("no more by the number of today", Edge.of(x.line(0, 7), x.line(3, 7)), 0, 0);
         edge.due("count", x.count(6), 0);
+        DoorsBook y = edge.told("book 50 0 1;line 0 trade 3 99 a;line 0 trade 0 99 a;house 3 99 1 50;");
+        edge.row("of the last STREET", Edge.of(y.line(0, 7), y.line(1, 7)), 1, 0);
     }
 
     // ---- promise 10
@@ -241,7 +243,11 @@ final class LineEdges {
         may("0 trade 0 1 lee age 120", "1 trade 0 1 lee", 1);
         may("0 trade 0 1 lee", "0 trade 0 1 lee", 1);
         may("0 trade 0 1 lee age 0", "0 trade 0 1 lee age 120", 0);
+        edge.sentence(Edge.TERMS, "TWO LINES MAY be one person: NAMES are LIKE;");
         may("0 trade 0 1 lee", "0 trade 0 1 jones", 0);
+        may("0 trade 0 1 lee", "0 trade 0 1 leep", 1);
+        may("0 trade 0 1 lee", "0 trade 0 1 leepp", 0);
+        may("0 trade 0 1 lee", "0 trade 0 1 leewhy", 1);
     }
 
     private void homesAtTwoDoors() {

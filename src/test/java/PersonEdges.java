@@ -17,6 +17,7 @@ final class PersonEdges {
         personRefuses();
         sureOfTwo();
         sureRefuses();
+        askedFirst();
         joinedAnew();
         stayRefuses();
         allAreStale();
@@ -40,6 +41,7 @@ final class PersonEdges {
     private void withoutLines() {
         edge.sentence(15, "(Without LINES 0, 1, 0.)");
         edge.row("a new object", joined(new DoorsBook()), 0, 1, 0);
+        edge.row("each as the first call", Edge.of(new DoorsBook().joined(1), new DoorsBook().joined(2)), 1, 0);
         edge.row("BOOKS alone", joined(edge.told("book 50 0 1;order 50 0 1 2;house 0 1 1 2;")), 0, 1, 0);
     }
 
@@ -148,6 +150,19 @@ final class PersonEdges {
         }
     }
 
+    /** Whichever call comes first works JOINED out. */
+    private void askedFirst() {
+        edge.sentence(15, "JOINED: 0 how many PERSONS, 1 RIVALS, 2 the greatest PERSON of THE FIRST");
+        String text = "book 50 0 1;line 0 trade 0 1 a;line 0 trade 0 1 ab;line 0 trade 0 1 abd;";
+        edge.due("PERSONS", edge.told(text).joined(0), 2);
+        edge.due("RIVALS", edge.told(text).joined(1), 2);
+        edge.due("the greatest", edge.told(text).joined(2), 2);
+        edge.due("the PERSON", edge.told(text).person(2), 6);
+        edge.due("SURE", edge.told(text).sure(0, 1), 1);
+        edge.due("SURE of the same", edge.told(text).sure(0, 0), 2);
+        edge.due("STAY", edge.told(text).stay(1, 3), 9999);
+    }
+
     /** What was worked out for fewer LINES or ORDERS does not stay. */
     private void joinedAnew() {
         edge.sentence(Edge.TERMS, "JOINED: all LINES parted into PERSONS");
@@ -163,6 +178,12 @@ final class PersonEdges {
         edge.row("still one DOOR", joined(x), 1, 1, 2);
         edge.tell(x, "line 1 trade 0 1 zzz;");
         edge.row("another", joined(x), 2, 1, 2);
+        DoorsBook y = edge.told("book 50 0 1;line 0 listed 0 1 lee;line 0 listed 0 2 lee;order 55 0 2 1;");
+        edge.row("one DOOR", joined(y), 1, 1, 2);
+        edge.tell(y, "order 52 0 2 7;");
+        edge.row("two DOORS by an earlier ORDER, told later", joined(y), 2, 1, 1);
+        edge.row("each alone", persons(y), 1, 2);
+        edge.due("no more", y.sure(0, 1), 0);
     }
 
     // ---- promise 18
@@ -220,6 +241,12 @@ final class PersonEdges {
         edge.row("one beside", stay(x, 0), 50, 50, 49, 51);
         edge.tell(x, "book 48 0 1;book 53 0 1;");
         edge.row("the nearest ones, not the latest told", stay(x, 0), 50, 50, 49, 51);
+        DoorsBook y = edge.told("book 70 0 1;book 50 0 1;line 1 trade 0 1 lee;");
+        edge.due("LEFT by the first BOOK", y.stay(0, 3), 70);
+        for (int year : Edge.ints(60, 40)) {
+            edge.faulty(y, "book " + year + " 0 1;line 2 trade 0 1 lee;x", 33, 1);
+            edge.row("what did not come does not count", stay(y, 0), 50, 50, 0, 70);
+        }
     }
 
     private void cameAndLeftBesides() {

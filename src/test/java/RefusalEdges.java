@@ -20,9 +20,43 @@ final class RefusalEdges {
     }
 
     void run() {
+        numbersFromZero();
+        findingsByNumbers();
+        upToTheLastCall();
         theFirstThatFits();
         changesNothing();
         aFullTapeChangesNothing();
+    }
+
+    private void numbersFromZero() {
+        edge.sentence(Edge.TERMS, "Numbers go from 0 on.");
+        DoorsBook x = full();
+        edge.row("the first ones", Edge.of(x.set(0, 0, 1), x.line(0, 0), x.leaf(0, 1), x.today(0, 9, 0), x.trace(0), x.person(4) & 1), 1, 0, 1, 9, 23, 0);
+        edge.row("none below", Edge.of(x.set(-1, 0, 1), x.set(0, -1, 1), x.line(-1, 0), x.leaf(-1, 0), x.today(-1, 9, 0), x.trace(-1)),
+            Edge.BAD, Edge.PLACE, Edge.BAD, Edge.BAD, Edge.BAD, Edge.NONE);
+    }
+
+    private void findingsByNumbers() {
+        edge.sentence(Edge.TERMS, "-1000010 less 1 NULL (a SHEET that is missing), 2 PLACE (no such place of a SHEET), 3 KIND (a LINE that is not that), "
+            + "4 SIZE (fewer than none), 5 STORE (SHEETS of two LANES).");
+        DoorsBook x = full();
+        edge.row("NULL", Edge.of(x.drop(6), x.status()), -1000011, 1);
+        edge.row("PLACE", Edge.of(x.set(0, 3, 1), x.status()), -1000012, 2);
+        edge.row("KIND", Edge.of(x.as(0, 2), x.status()), -1000013, 3);
+        edge.row("SIZE", Edge.of(x.sheet(0, 0, -1), x.status()), -1000014, 4);
+        edge.row("STORE", Edge.of(x.copy(0, 0, 1, 0, 1), x.status()), -1000015, 5);
+    }
+
+    private void upToTheLastCall() {
+        edge.sentence(Edge.TERMS, "An object is used for at most 512 calls after it has been made");
+        DoorsBook x = new DoorsBook();
+        int calls = 0;
+        for (; calls < 480; calls++) edge.due("feed and read", calls % 2 == 0 ? x.feed(32, 1) : x.read(), calls % 2 == 0 ? 1 : 0);
+        String text = "book 50 0 1;line 0 trade 0 1 lee;line 0 trade 0 2 lea;";
+        for (int at = 0; at < text.length(); at += 2, calls++) x.feed(Check.asLong(text.substring(at, at + 2)), 2);
+        edge.due("call 508", x.read(), 2);
+        edge.row("the last four", Edge.of(x.person(1), x.joined(1), x.ask(1, 1), x.trace(2)), 3, 1, 53, 10);
+        edge.due("calls", calls + 5, 512);
     }
 
     private void theFirstThatFits() {

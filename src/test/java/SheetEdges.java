@@ -156,6 +156,7 @@ final class SheetEdges {
             edge.row("of " + values[k], Edge.of(x.set(0, 0, values[k]), x.set(1, 0, values[k]), x.set(2, 0, values[k])),
                 bytes[k], shorts[k], values[k]);
         }
+        edge.sentence(Edge.TERMS, "have a LANE (0 bytes, 1 shorts, 2 ints)");
         edge.due("what is held is cut, too", x.set(0, 0, 256 + 44), 44);
         edge.due("what is held is cut, too", SheetEdges.is(x, 0, 0, 0, 44) ? 1 : 0, 1);
     }

@@ -13,6 +13,7 @@ final class TextEdges {
         tapeIsFull();
         feedRefuses();
         readsTheTape();
+        emptyThen();
         nothingComes();
         faultNumber();
         yearsOfTexts();
@@ -125,6 +126,22 @@ final class TextEdges {
         edge.due("an empty tape", x.read(), 12);
     }
 
+    /** Bytes of a longer text ahead do not stand behind a shorter one. */
+    private void emptyThen() {
+        edge.sentence(7, "The tape, empty then, is read");
+        DoorsBook x = edge.told("book 50 0 19;book 50 0 1;line 0 trade 0 1 abcdef;");
+        edge.faulty(x, "book 50 0 1", 11, 1);
+        edge.faulty(x, "book 50 0 1;;", 12, 1);
+        edge.faulty(x, "book 50 0 1", 11, 1);
+        edge.faulty(x, "bo", 0, 1);
+        edge.faulty(x, "book", 4, 1);
+        edge.faulty(x, "books", 0, 1);
+        edge.faulty(x, "book", 4, 1);
+        edge.faulty(x, "book 50 0 12345", 10, 1);
+        edge.faulty(x, "book 50 0 99", 12, 1);
+        edge.due("an empty tape", x.read(), 1);
+    }
+
     private void nothingComes() {
         edge.sentence(7, "-1000100 less the place of a FAULT: nothing comes.");
         String well = BOOK + "line 0 trade 0 1 a;order 9 0 1 2;house 0 1 8 9;";
@@ -211,6 +228,7 @@ final class TextEdges {
         }
         edge.faulty(ahead + ";", ahead.length(), 1);
         edge.faulty(ahead + "abcdefghi;", ahead.length(), 2);
+        edge.sentence(Edge.TERMS, "TOKENS: NAMES (letters a to z)");
         DoorsBook z = edge.told(ahead + "az;line 0 trade 0 1 za;");
         edge.row("a and z are letters", Edge.of(z.ear(0), z.ear(1)), 200, 25000);
         for (char beside : "`{AZ".toCharArray()) edge.faulty(ahead + "a" + beside + ";", ahead.length() + 1, 1);
@@ -285,7 +303,7 @@ final class TextEdges {
         for (int part = 0; part < k; part++) soFar.append(parts[part]).append(' ');
         int place = soFar.length();
         boolean isName = parts[k].equals("lee");
-        for (String other : new String[] {"x", "books", "boo", "abcdefghi", "7", "12345", ";", "#", "" + (char) 200}) {
+        for (String other : new String[] {"x", "books", "boo", "xook", "brder", "hoose", "linf", "abcdefghi", "7", "12345", ";", "#", "" + (char) 200}) {
             boolean isLikeIt = sortOf(other) == sortOf(parts[k]) && sortOf(other) != 'w' || isName && sortOf(other) == 'w';
             boolean endsALine = parts[k].equals("age") && other.equals(";");
             if (!isLikeIt && !endsALine) edge.faulty(soFar + other + " ;", place, 1);
@@ -438,6 +456,7 @@ final class TextEdges {
     private void roomForBooks() {
         edge.sentence(Edge.TERMS, "3 a BOOK, LINE, ORDER, HOUSE more than there is room for (its first word).");
         edge.faulty(BOOK.repeat(10) + " book 50 0 1;", 121, 3);
+        edge.sentence(Edge.TERMS, "BOOKS 0 .. 9, as they are told");
         DoorsBook x = edge.told(BOOK.repeat(9));
         edge.faulty(x, BOOK.repeat(2), 12, 3);
         edge.due("none of the two came", x.count(1), 9);
@@ -452,6 +471,7 @@ final class TextEdges {
     }
 
     private void roomForLines() {
+        edge.sentence(Edge.TERMS, "LINES 0 .. 11, as they are told");
         String line = "line 0 trade 0 1 a;";
         edge.faulty(BOOK + line.repeat(13), 240, 3);
         DoorsBook x = edge.told(BOOK + line.repeat(11));
@@ -466,6 +486,7 @@ final class TextEdges {
     }
 
     private void roomForOrders() {
+        edge.sentence(Edge.TERMS, "ORDERS, as they are told (20 at most)");
         String order = "order 50 0 1 2;";
         edge.faulty(order.repeat(21), 300, 3);
         DoorsBook x = edge.told(order.repeat(19));
@@ -479,6 +500,7 @@ final class TextEdges {
     }
 
     private void roomForHouses() {
+        edge.sentence(Edge.TERMS, "HOUSES, as they are told (20 at most)");
         String house = "house 0 1 8 9;";
         edge.faulty(house.repeat(21), 280, 3);
         DoorsBook x = edge.told(house.repeat(19) + BOOK + "line 0 trade 0 7 a;");
