@@ -975,9 +975,12 @@ public final class DoorsBook {
         }
     }
 
-    /** JOINED. A set of LINES is a number, LINE k being 2 to the power k; for each set its fewest PERSONS. */
+    /**
+     * JOINED. A set of LINES is a number, LINE k being 2 to the power k; for each set its fewest PERSONS. To part a set
+     * only sets without its least LINE are needed: so of those with LINE 0 none is parted before it is asked for.
+     */
     private static final class Persons {
-        private static final int TOO_MANY = LINES + 1;
+        private static final int NOT_PARTED = 0;
 
         private final Lines lines;
         private final int[] mayBe = new int[LINES];
@@ -1027,8 +1030,10 @@ public final class DoorsBook {
         }
 
         private int rivalsWith(int person) {
+            if (!isOne(person)) return 0;
             int rest = all() & ~person;
-            return fewest[person] == 1 && fewest[rest] + 1 == fewest[all()] ? ways[rest] : 0;
+            if (rest != 0 && fewest[rest] == NOT_PARTED) partSet(rest);
+            return fewest[rest] + 1 == fewest[all()] ? ways[rest] : 0;
         }
 
         private int all() {
@@ -1042,7 +1047,12 @@ public final class DoorsBook {
             findWhoMayBeOne();
             fewest[0] = 0;
             ways[0] = 1;
-            for (int set = 1; set <= all(); set++) partSet(set);
+            int all = all();
+            for (int set = 1; set < all; set++) {
+                fewest[set] = NOT_PARTED;
+                if ((set & 1) == 0) partSet(set);
+            }
+            if (all > 0) partSet(all);
             pickFirst();
         }
 
@@ -1055,31 +1065,38 @@ public final class DoorsBook {
             }
         }
 
-        /** By the PERSON of the set's least LINE, so that each parting counts once; lesser sets are done. */
-        private void partSet(int set) {
-            int least = set & -set;
-            int rest = set & ~least;
-            int friends = rest & mayBe[Integer.bitCount(least - 1)];
-            if (friends == rest && fewest[rest] <= 1) {
-                fewest[set] = 1;
-                ways[set] = 1;
-                return;
-            }
-            fewest[set] = TOO_MANY;
-            addPartings(set, least);
-            // (more - 1) & friends is below more, so the sets come to an end
-            for (int more = friends; more > 0; more = (more - 1) & friends) addPartings(set, least | more);
+        private int friendsOf(int least) {
+            int line = Integer.bitCount(least - 1);
+            return line < LINES ? mayBe[line] : 0;
         }
 
-        private void addPartings(int set, int person) {
-            if (fewest[person] != 1) return;
-            int rest = set & ~person;
-            int parts = fewest[rest] + 1;
-            if (parts < fewest[set]) {
-                fewest[set] = (byte) parts;
-                ways[set] = 0;
+        /** Whether each two LINES of a set MAY be one. */
+        private boolean isOne(int set) {
+            int least = set & -set;
+            int others = set & ~least;
+            return (others & ~friendsOf(least)) == 0 && fewest[others] <= 1;
+        }
+
+        /** By the PERSON of the set's least LINE, so that each parting counts once; sets without that LINE are done. */
+        private void partSet(int set) {
+            int least = set & -set;
+            int others = set & ~least;
+            int friends = others & friendsOf(least);
+            boolean isOne = friends == others && fewest[others] <= 1;
+            int parts = isOne ? 1 : fewest[others] + 1;
+            int sum = isOne ? 1 : ways[others];
+            // (more - 1) & friends is below more, so the sets come to an end
+            for (int more = isOne ? 0 : friends; more > 0; more = (more - 1) & friends) {
+                if (fewest[more] > 1) continue;
+                int rest = others & ~more;
+                if (fewest[rest] + 1 < parts) {
+                    parts = fewest[rest] + 1;
+                    sum = 0;
+                }
+                if (fewest[rest] + 1 == parts) sum += ways[rest];
             }
-            if (parts == fewest[set]) ways[set] += ways[rest];
+            fewest[set] = (byte) parts;
+            ways[set] = sum;
         }
 
         private void pickFirst() {
@@ -1096,8 +1113,8 @@ public final class DoorsBook {
         private int leastPerson(int left) {
             int least = left & -left;
             for (int person = least; person < left; person++) {
-                boolean fits = (person & least) != 0 && (person & ~left) == 0;
-                if (fits && fewest[person] == 1 && fewest[left & ~person] + 1 == fewest[left]) return person;
+                if ((person & least) == 0 || (person & ~left) != 0) continue;
+                if (fewest[left & ~person] + 1 == fewest[left] && isOne(person)) return person;
             }
             return left;
         }
