@@ -150,6 +150,10 @@ final class BookEdges {
         edge.row("of ways with so many alone", pairs(u), 1, 3, 2, 4);
         DoorsBook v = edge.told(BOOKS + "line 0 trade 0 2 lee;line 0 trade 0 1 lee;line 1 trade 0 2 lee;");
         edge.row("the least BEFORE is the first by its number", pairs(v), 1, 2);
+        DoorsBook t = edge.told("book 70 0 1;" + BOOKS + "line 1 trade 0 1 lee;line 1 trade 0 2 baker;line 2 trade 0 1 baker;"
+            + "line 0 trade 0 1 cole;line 0 trade 0 2 lee;");
+        edge.row("between other years", Edge.of(t.found(0, 50, 70, 0, 0), t.found(0, 50, 70, 0, 1)), 0, 4);
+        edge.row("nothing stays of them", pairs(t), 1, 2);
         DoorsBook w = edge.told(BOOKS + "line 0 trade 0 1 lee;line 0 trade 0 2 cole;line 1 trade 0 1 cole;line 1 trade 0 2 lee;");
         edge.row("the least BEFORE goes ahead of the least AFTER", pairs(w), 0, 3);
     }
@@ -191,6 +195,8 @@ final class BookEdges {
         DoorsBook x = edge.told(BOOKS + "line 0 trade 0 1 lee;".repeat(11) + "line 1 trade 0 1 lee;");
         edge.row("eleven of the first have the one", missing(x, 0, 1), 1, 1, 11);
         edge.row("the one has eleven", missing(x, 1, 0), 11, 11, 1);
+        DoorsBook z = edge.told(BOOKS + "line 0 trade 0 1 lee;".repeat(11) + "line 1 trade 0 2 lee;");
+        edge.row("none of twelve", missing(z, 0, 1), Edge.NONE, 12, 0);
         DoorsBook y = edge.told(BOOKS + "line 0 trade 0 1 lee;line 1 trade 0 5 lee;order 50 0 1 5;");
         edge.due("an ORDER of GATHERED does not count", y.missing(0, 1, 2), 0);
         edge.tell(y, "order 51 0 1 5;");

@@ -149,6 +149,10 @@ final class LineEdges {
         edge.due("seven", ear("abdbdbdb"), 131);
         edge.due("like ones do not count twice", ear("abbddllm"), 134);
         edge.due("three in the last letters", ear("aeiouldr"), 436);
+        DoorsBook x = edge.told("book 9 0 1;");
+        edge.faulty(x, "line 0 trade 0 1 abdlmr;x", 24, 1);
+        edge.tell(x, "line 0 trade 0 1 a;");
+        edge.row("letters that did not come are not behind it", Edge.of(x.ear(0), x.line(0, 8)), 0, 1);
     }
 
     // ---- promise 11

@@ -16,6 +16,7 @@ final class PersonEdges {
         thenTheNextPerson();
         personRefuses();
         sureOfTwo();
+        sureOfOneWay();
         sureRefuses();
         askedFirst();
         joinedAnew();
@@ -139,6 +140,14 @@ final class PersonEdges {
         edge.row("MAY be one, but not with the fewest", Edge.of(less.alike(1, 2, 2), less.sure(1, 2), less.sure(0, 1), less.sure(2, 3)), 1, 0, 1, 1);
     }
 
+    /** LINE 0 MAY be 1 or 2, but not both; 2 MAY be 3: two PERSONS in one way alone. */
+    private void sureOfOneWay() {
+        edge.sentence(Edge.TERMS, "in how many RIVALS they are one person.");
+        DoorsBook x = edge.told("book 50 0 1;line 0 trade 0 1 ab;line 0 trade 0 1 a;line 0 trade 0 1 abd;line 0 trade 0 1 abdl;");
+        edge.row("two PERSONS", joined(x), 2, 1, 2);
+        edge.row("each two", Edge.of(x.sure(0, 1), x.sure(2, 3), x.sure(0, 2), x.sure(1, 2), x.sure(0, 3), x.sure(1, 3)), 1, 1, 0, 0, 0, 0);
+    }
+
     private void sureRefuses() {
         edge.sentence(17, "SURE of two LINES. BAD as a long (the same is well: all RIVALS).");
         DoorsBook x = edge.told("book 50 0 1;line 0 trade 0 1 a;line 0 trade 0 1 ab;line 0 trade 0 1 abd;");
@@ -184,6 +193,10 @@ final class PersonEdges {
         edge.row("two DOORS by an earlier ORDER, told later", joined(y), 2, 1, 1);
         edge.row("each alone", persons(y), 1, 2);
         edge.due("no more", y.sure(0, 1), 0);
+        DoorsBook z = edge.told("book 50 0 1;line 0 listed 0 1 lee;line 0 listed 0 2 lee;line 0 trade 0 1 zzz;line 0 trade 0 1 zzz;");
+        edge.row("SURE of the others", Edge.of(z.joined(0), z.sure(2, 3)), 3, 1);
+        edge.tell(z, "order 51 0 2 1;");
+        edge.row("SURE of the others anew", Edge.of(z.joined(0), z.sure(2, 3), z.sure(0, 1)), 2, 1, 1);
     }
 
     // ---- promise 18
