@@ -162,7 +162,7 @@ final class AskEdges {
         x.ask(2, 0);
         edge.row("six", Edge.of(x.trace(0), x.trace(5)), 13, 20);
         for (int i : Edge.ints(-1, 6, 15, 16, 17, Edge.MAX, Edge.MIN)) edge.due("no such number", x.trace(i), Edge.NONE);
-        edge.sentence(Edge.TERMS, "each of which leaves its number in THE TRACE as it begins (the first 16)");
+        edge.sentence(Edge.TERMS, "ASKS of LINES, by BODIES, each of which leaves its number in THE TRACE as it begins (the first 16)");
         for (int k = 0; k < 20; k++) x.ask(2, 0);
         edge.row("no ask has more than six", Edge.of(x.trace(0), x.trace(5), x.trace(6), x.trace(15)), 13, 20, Edge.NONE, Edge.NONE);
     }

@@ -63,7 +63,7 @@ final class BookEdges {
     }
 
     private void beforeAndAfter() {
-        edge.sentence(Edge.TERMS, "BEFORE, AFTER: its LINES with GATHERED the first, the second one, by their own numbers, of one number as they were told.");
+        edge.sentence(Edge.TERMS, "A LOST ORDER of a STREET between two years: BEFORE, AFTER: its LINES with GATHERED the first, the second one, by their own numbers, of one number as they were told.");
         DoorsBook x = edge.told("book 52 2 1;book 60 0 1;line 0 trade 0 9 baker;line 0 stale 0 1 lee;line 0 rated 0 5 cole;"
             + "line 1 trade 0 1 lee;line 1 trade 0 2 cole;line 1 trade 0 3 baker;order 55 0 1 99;order 55 0 9 1;");
         edge.row("by their own numbers, not those of today", pairs(x), 1, 3, 2, 4, 0, 5);
@@ -191,7 +191,7 @@ final class BookEdges {
     }
 
     private void bothOfTheFirst() {
-        edge.sentence(Edge.TERMS, "BOTH: how many of the first have one of the second with a LIKE NAME at the same DOOR.");
+        edge.sentence(Edge.TERMS, "MISSING of two BOOKS: their LINES a, b; BOTH: how many of the first have one of the second with a LIKE NAME at the same DOOR.");
         DoorsBook x = edge.told(BOOKS + "line 0 trade 0 1 lee;".repeat(11) + "line 1 trade 0 1 lee;");
         edge.row("eleven of the first have the one", missing(x, 0, 1), 1, 1, 11);
         edge.row("the one has eleven", missing(x, 1, 0), 11, 11, 1);

@@ -8,6 +8,7 @@ final class DoorEdges {
 
     void run() {
         ordersOfAYearAbove();
+        anOrderOnItsStreet();
         byYearsAndAsTold();
         yearsOfToday();
         todayRefuses();
@@ -23,7 +24,7 @@ final class DoorEdges {
     // ---- promise 12
 
     private void ordersOfAYearAbove() {
-        edge.sentence(Edge.TERMS, "ORDERS with a year above that, by years, of one year as they were told, each whose STREET and "
+        edge.sentence(Edge.TERMS, "TODAY of a STREET's number of a year: ORDERS with a year above that, by years, of one year as they were told, each whose STREET and "
             + "old number are these makes it the new one.");
         DoorsBook x = edge.told("order 50 1 7 8;");
         edge.row("the year ahead, that year, the next", Edge.of(x.today(1, 7, 49), x.today(1, 7, 50), x.today(1, 7, 51)), 8, 7, 7);
@@ -32,6 +33,16 @@ final class DoorEdges {
         DoorsBook y = edge.told("order 1 0 1 2;order 9998 3 98 99;");
         edge.row("the first year", Edge.of(y.today(0, 1, 0), y.today(0, 1, 1)), 2, 1);
         edge.row("the last year", Edge.of(y.today(3, 98, 9997), y.today(3, 98, 9998), y.today(3, 98, 9999)), 99, 98, 98);
+    }
+
+    private void anOrderOnItsStreet() {
+        edge.sentence(Edge.TERMS, "ORDERS, as they are told (20 at most): from a year on, on a STREET, an old number is a new one.");
+        DoorsBook x = edge.told("order 50 2 7 31;");
+        edge.row("until that year, and from it on", Edge.of(x.today(2, 7, 49), x.today(2, 7, 50), x.today(2, 7, 9999)), 31, 7, 7);
+        for (int street : Edge.ints(0, 1, 3)) edge.due("on STREET " + street, x.today(street, 7, 49), 7);
+        edge.row("the new one is no old one", Edge.of(x.today(2, 31, 49), x.today(2, 50, 6)), 31, 50);
+        DoorsBook y = edge.told("order 50 0 1 99;order 50 3 99 1;");
+        edge.row("the least and the greatest number", Edge.of(y.today(0, 1, 0), y.today(3, 99, 0), y.today(0, 99, 0), y.today(3, 1, 0)), 99, 1, 99, 1);
     }
 
     private void byYearsAndAsTold() {

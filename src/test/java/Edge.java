@@ -18,7 +18,7 @@ final class Edge {
     /** The tests behind this are of these words of a promise, or of what stands ahead of them all (TERMS). */
     void sentence(int promise, String words) {
         sentence = words;
-        check.holds("promise " + promise + " says: " + words, doc.says(promise, words));
+        check.holds("promise " + promise + " says: " + words, doc.quotes(promise, words));
         tested[promise] = true;
     }
 
@@ -65,6 +65,10 @@ final class Edge {
     void end() {
         for (int promise = 1; promise <= Doc.PROMISES; promise++) {
             check.holds("promise " + promise + " has a test of a boundary case", tested[promise]);
+        }
+        for (int section = 0; section <= Doc.PROMISES; section++) {
+            String left = doc.unquoted(section);
+            check.holds("each sentence of section " + section + " has a test, but: " + left, left.isEmpty());
         }
         check.end();
     }

@@ -11,6 +11,8 @@ final class LineEdges {
     void run() {
         firstAndLastLine();
         lineRefuses();
+        partsOfALine();
+        housesAreOfToday();
         doorOfALine();
         homelessByHouses();
         homelessInNone();
@@ -56,6 +58,32 @@ final class LineEdges {
         for (int bad : NO_WHATS) edge.due("what", x.line(0, bad), Edge.BAD);
         edge.due("what", x.line(0, 9), Edge.BAD);
         edge.due("both", x.line(2, 9), Edge.BAD);
+    }
+
+    /** Each part of a LINE differs from the others, so that none can stand for another. */
+    private void partsOfALine() {
+        edge.sentence(Edge.TERMS, "LINES 0 .. 11, as they are told: a BOOK, a SORT (0 listed, 1 rated, 2 counted, 3 trade, 4 stale), a STREET, a number, "
+            + "a NAME (1 to 8 letters), an age (0 to 120) or none (NONE).");
+        DoorsBook x = edge.told("book 50 0 1;book 62 1 1;book 73 2 1;line 2 listed 3 41 abcde age 17;line 1 stale 0 99 ab;line 0 counted 2 1 abcdefgh age 120;");
+        edge.row("the first", parts(x, 0), 2, 0, 3, 41, 17, 71, 41, 0, 5);
+        edge.row("the second", parts(x, 1), 1, 4, 0, 99, Edge.NONE, 61, 99, 0, 2);
+        edge.row("the third", parts(x, 2), 0, 2, 2, 1, 120, 50, 1, 0, 8);
+        edge.row("no fourth", parts(x, 3), Edge.BAD, Edge.BAD, Edge.BAD, Edge.BAD, Edge.BAD, Edge.BAD, Edge.BAD, Edge.BAD, Edge.BAD);
+    }
+
+    private static long[] parts(DoorsBook x, int line) {
+        long[] all = new long[9];
+        for (int what = 0; what < 9; what++) all[what] = x.line(line, what);
+        return all;
+    }
+
+    private void housesAreOfToday() {
+        edge.sentence(Edge.TERMS, "HOUSES, as they are told (20 at most): a STREET, a number (of today), from a year to another one (not among them).");
+        DoorsBook x = edge.told("book 50 0 1;book 70 0 1;order 60 2 3 4;order 60 2 4 8;house 2 8 60 80;"
+            + "line 0 trade 2 3 a;line 0 trade 2 8 a;line 1 trade 2 3 a;line 1 trade 2 4 a;line 1 trade 2 8 a;line 0 trade 1 3 a;line 0 trade 1 8 a;");
+        edge.row("at its number of today, of whatever year the LINE is", Edge.of(x.line(0, 7), x.line(1, 7), x.line(4, 7)), 1, 1, 0);
+        edge.row("not at a number of old", Edge.of(x.line(2, 7), x.line(3, 7)), 0, 0);
+        edge.row("not on another STREET", Edge.of(x.line(5, 7), x.line(6, 7)), 0, 0);
     }
 
     private void doorOfALine() {
@@ -124,7 +152,7 @@ final class LineEdges {
     }
 
     private void earCodes() {
-        edge.sentence(Edge.TERMS, "1 for b f p v, 2 for c g j k q s x z, 3 for d t, 4 for l, 5 for m n, 6 for r, 0 for others");
+        edge.sentence(Edge.TERMS, "EAR of a NAME: its first letter; then for each letter behind: 1 for b f p v, 2 for c g j k q s x z, 3 for d t, 4 for l, 5 for m n, 6 for r, 0 for others");
         String[] groups = {"aehiouwy", "bfpv", "cgjkqsxz", "dt", "l", "mn", "r"};
         for (int code = 0; code < groups.length; code++) {
             for (char letter : groups[code].toCharArray()) edge.due("a" + letter, ear("a" + letter), 100 * code);

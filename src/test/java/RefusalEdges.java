@@ -48,7 +48,7 @@ final class RefusalEdges {
     }
 
     private void upToTheLastCall() {
-        edge.sentence(Edge.TERMS, "An object is used for at most 512 calls after it has been made");
+        edge.sentence(Edge.TERMS, "An object is used for at most 512 calls after it has been made; what later calls answer is free.");
         DoorsBook x = new DoorsBook();
         int calls = 0;
         for (; calls < 480; calls++) edge.due("feed and read", calls % 2 == 0 ? x.feed(32, 1) : x.read(), calls % 2 == 0 ? 1 : 0);

@@ -66,7 +66,7 @@ final class SheetEdges {
     }
 
     private void sheetsAreMissingAtFirst() {
-        edge.sentence(Edge.TERMS, "SHEETS 0 .. 7 are missing (at first)");
+        edge.sentence(Edge.TERMS, "SHEETS 0 .. 7 are missing (at first), or have a LANE");
         DoorsBook x = new DoorsBook();
         for (int sheet = 0; sheet < 8; sheet++) {
             edge.due("set", x.set(sheet, 0, 0), Edge.NULL);

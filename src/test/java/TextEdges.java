@@ -72,7 +72,7 @@ final class TextEdges {
     }
 
     private void tapeIsFull() {
-        edge.sentence(Edge.TERMS, "THE TAPE has at most 600 bytes");
+        edge.sentence(Edge.TERMS, "TEXTS: THE TAPE has at most 600 bytes");
         for (int n = 1; n <= 8; n++) {
             DoorsBook x = new DoorsBook();
             Check.feed(x, BOOK + blanks(600 - n - BOOK.length()));
